@@ -55,6 +55,7 @@ public final class FaceTest {
                     Modifier.isStatic(kind) && !Modifier.isPublic(kind) && !Modifier.isProtected(kind));
         }
         check.same("public final", "the class", Modifier.toString(PakeDesk.class.getModifiers()));
+        check.sentence("Constants", "`NONE = -1`: Nothing there.");
         check.same(-1, "NONE", PakeDesk.NONE);
         check.end();
     }

@@ -12,6 +12,7 @@ public final class Promise01Test {
     }
 
     private static void nothingIsThere(int seed) {
+        CHECK.sentence("Promise 1", "No records, no sessions.");
         PakeDesk desk = new PakeDesk(seed);
         CHECK.due(0, "sessions()", desk::sessions);
         CHECK.due(0, "tick(0)", () -> desk.tick(0));
@@ -26,6 +27,7 @@ public final class Promise01Test {
     }
 
     private static void fakesComeFromTheSeed(int seed) {
+        CHECK.sentence("Promise 1", "SEED is seed.");
         PakeDesk desk = new PakeDesk(seed);
         for (int u = 0; u < 8; u++) {
             int user = u;
@@ -39,6 +41,7 @@ public final class Promise01Test {
     }
 
     private static void objectsAreApart() {
+        CHECK.sentence("Promise 1", "No records, no sessions.");
         PakeDesk one = new PakeDesk(5);
         PakeDesk other = new PakeDesk(5);
         one.register(3, 1, 4, 5);

@@ -12,6 +12,7 @@ public final class Promise02Test {
     }
 
     private static void everyUserAndWay() {
+        CHECK.sentence("Promise 2", "A user gets a record of a way");
         PakeDesk desk = new PakeDesk(1);
         for (int u = 0; u < 8; u++) {
             int user = u;
@@ -24,6 +25,7 @@ public final class Promise02Test {
     }
 
     private static void wrongUsersAndWaysChangeNothing() {
+        CHECK.sentence("Promise 2", "False if there is no such user or way.");
         PakeDesk desk = new PakeDesk(1);
         desk.register(0, 1, 5, 6);
         for (int wrong : new int[] {-1, 8, 9, 256, Integer.MIN_VALUE, Integer.MAX_VALUE}) {
@@ -39,6 +41,7 @@ public final class Promise02Test {
     }
 
     private static void oneRecordInPlaceOfAnother() {
+        CHECK.sentence("Promise 2", "A user gets a record of a way, in place of another one: true.");
         PakeDesk desk = new PakeDesk(-9);
         desk.register(4, 0, 11, 12);
         expectHeld(desk, -9, 4, 0, 11, 12);
@@ -53,6 +56,7 @@ public final class Promise02Test {
     }
 
     private static void saltMeansNothingForWayZero() {
+        CHECK.sentence("Promise 2", "(Salt means nothing for way 0.)");
         PakeDesk desk = new PakeDesk(3);
         desk.register(6, 0, 21, 1);
         desk.register(6, 0, 21, -77);
@@ -61,6 +65,7 @@ public final class Promise02Test {
     }
 
     private static void longsAreTakenWhole() {
+        CHECK.sentence("Promise 2", "A user gets a record of a way");
         PakeDesk desk = new PakeDesk(3);
         long[] edges = {0, -1, Long.MIN_VALUE, Long.MAX_VALUE, 1L << 32};
         for (long edge : edges) {

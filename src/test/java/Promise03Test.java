@@ -10,6 +10,7 @@ public final class Promise03Test {
     }
 
     private static void theRecordIsGone() {
+        CHECK.sentence("Promise 3", "A user's record is gone: true;");
         for (int way = 0; way < 2; way++) {
             PakeDesk desk = new PakeDesk(12);
             desk.register(7, way, 5, 6);
@@ -29,6 +30,7 @@ public final class Promise03Test {
     }
 
     private static void noneToForget() {
+        CHECK.sentence("Promise 3", "false if there is none.");
         PakeDesk desk = new PakeDesk(12);
         for (int user : new int[] {0, 7, -1, 8, Integer.MIN_VALUE, Integer.MAX_VALUE}) {
             CHECK.due(false, "forget " + user, () -> desk.forget(user));
@@ -36,6 +38,7 @@ public final class Promise03Test {
     }
 
     private static void whatOutlivesTheRecord() {
+        CHECK.sentence("Promise 3", "A user's record is gone");
         PakeDesk desk = new PakeDesk(12);
         desk.register(1, 0, 42, 0);
         int client = desk.client(1, 0, 42, 3);

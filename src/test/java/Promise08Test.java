@@ -16,16 +16,16 @@ public final class Promise08Test {
         wrongFirstMessagesOfWord();
         wrongFirstMessagesOfSalt();
         rightFirstMessagesAtTheEdge();
-        theBaseThatIsZero();
-        theSaltOfTheMoment();
         wrongConfirmations();
         noSuchSession();
         notWaiting();
         expired();
+        expiredAtTheConfirmation();
         CHECK.end();
     }
 
     private static void wholeServerOfWord() {
+        CHECK.sentence("Promise 8", "A session receives a message: the state that it has then.");
         PakeDesk desk = new PakeDesk(SEED);
         desk.register(USER, 0, 5, 0);
         int server = desk.server(USER, 0, -8);
@@ -36,6 +36,7 @@ public final class Promise08Test {
     }
 
     private static void wholeServerOfSalt() {
+        CHECK.sentence("Promise 8", "A session receives a message: the state that it has then.");
         PakeDesk desk = new PakeDesk(SEED);
         desk.register(USER, 1, 5, 99);
         int server = desk.server(USER, 1, -8);
@@ -54,6 +55,7 @@ public final class Promise08Test {
     }
 
     private static void wholeClientOfWord() {
+        CHECK.sentence("Promise 8", "A session receives a message: the state that it has then.");
         PakeDesk desk = new PakeDesk(SEED);
         int client = desk.client(USER, 0, 5, -8);
         long word = Sums.word(USER, 5);
@@ -63,6 +65,7 @@ public final class Promise08Test {
     }
 
     private static void wholeClientOfSalt() {
+        CHECK.sentence("Promise 8", "A session receives a message: the state that it has then.");
         PakeDesk desk = new PakeDesk(SEED);
         int client = desk.client(USER, 1, 5, -8);
         long x = Sums.power(Sums.G, Sums.scalar(-8));
@@ -81,6 +84,7 @@ public final class Promise08Test {
     }
 
     private static void wrongFirstMessagesOfWord() {
+        CHECK.sentence("Promise 8", "IllegalArgumentException if it is a first message that is not right");
         long word = Sums.word(USER, 5);
         long element = Sums.power(Sums.G, 55);
         long[] wrong = {0, -1, 2, Sums.P - 1, Sums.P, Sums.P + 1, Sums.P + element, element - Sums.P,
@@ -94,6 +98,7 @@ public final class Promise08Test {
     }
 
     private static void wrongFirstMessagesOfSalt() {
+        CHECK.sentence("Promise 8", "IllegalArgumentException if it is a first message that is not right");
         for (long message : new long[] {0, -1, Sums.P, Sums.P + 1, 1L << 32, Long.MIN_VALUE, Long.MAX_VALUE}) {
             expectWrongFirst(1, true, message);
             expectWrongFirst(1, false, message);
@@ -118,6 +123,7 @@ public final class Promise08Test {
     }
 
     private static void rightFirstMessagesAtTheEdge() {
+        CHECK.sentence("Promise 8", "IllegalArgumentException if it is a first message that is not right");
         long word = Sums.word(USER, 5);
         long masked = Sums.times(Sums.G, Sums.power(Sums.M, word));
         for (long message : new long[] {1, Sums.G, Sums.M, Sums.N, masked, Sums.P - 2}) {
@@ -139,42 +145,8 @@ public final class Promise08Test {
         CHECK.due(want, "first message " + message + " of way " + way, () -> desk.receive(session, message));
     }
 
-    private static void theBaseThatIsZero() {
-        PakeDesk desk = new PakeDesk(SEED);
-        int client = desk.client(USER, 1, 5, 44);
-        long x = desk.message(client);
-        long y = Sums.times(3, Sums.verifier(Sums.fakeSalt(SEED, USER), USER, 5));
-        long key = Sums.digest(8, USER, x, y, 0);
-        CHECK.due(1, "Y", () -> desk.receive(client, y));
-        CHECK.due(2, "D", () -> desk.receive(client, Sums.confirmationOfServer(key, x, y)));
-        CHECK.due(key, "key", () -> desk.key(client));
-    }
-
-    private static void theSaltOfTheMoment() {
-        PakeDesk desk = new PakeDesk(SEED);
-        desk.register(USER, 1, 5, 100);
-        int early = desk.client(USER, 1, 5, 44);
-        int late = desk.client(USER, 1, 5, 44);
-        int last = desk.client(USER, 1, 5, 44);
-        desk.register(USER, 1, 6, 101);
-        desk.receive(early, 7);
-        desk.register(USER, 0, 6, 102);
-        desk.receive(late, 7);
-        desk.register(USER, 1, 6, 103);
-        desk.forget(USER);
-        desk.receive(last, 7);
-        expectSalted(desk, early, 101);
-        expectSalted(desk, late, Sums.fakeSalt(SEED, USER));
-        expectSalted(desk, last, Sums.fakeSalt(SEED, USER));
-    }
-
-    private static void expectSalted(PakeDesk desk, int client, long salt) {
-        long x = Sums.power(Sums.G, Sums.scalar(44));
-        long key = Sums.saltKeyOfClient(USER, x, 7, Sums.exponent(salt, USER, 5), 44);
-        CHECK.due(Sums.confirmationOfClient(key, x, 7), "C by the salt " + salt, () -> desk.message(client));
-    }
-
     private static void wrongConfirmations() {
+        CHECK.sentence("Promise 8", "UnsupportedOperationException if it is a confirmation that is not: the session fails.");
         for (int way = 0; way < 2; way++) {
             for (int bit = 0; bit < 64; bit += 21) {
                 PakeDesk desk = new PakeDesk(SEED);
@@ -202,6 +174,7 @@ public final class Promise08Test {
     }
 
     private static void noSuchSession() {
+        CHECK.sentence("Promise 8", "NoSuchElementException if there is none such.");
         PakeDesk desk = new PakeDesk(SEED);
         CHECK.due(NO_SESSION, "receive(0) of none", () -> desk.receive(0, 1));
         desk.client(0, 0, 1, 1);
@@ -211,9 +184,11 @@ public final class Promise08Test {
         Talk.fill(desk, 39);
         CHECK.due(NO_SESSION, "receive(40) of forty", () -> desk.receive(40, 1));
         CHECK.due(1, "receive(39) of forty", () -> desk.receive(39, Sums.G));
+        CHECK.due(1, "receive(0) of forty", () -> desk.receive(0, Sums.G));
     }
 
     private static void notWaiting() {
+        CHECK.sentence("Promise 8", "IllegalStateException if it does not wait for one.");
         PakeDesk desk = new PakeDesk(SEED);
         desk.register(USER, 1, 5, 9);
         int client = desk.client(USER, 1, 5, 1);
@@ -229,6 +204,7 @@ public final class Promise08Test {
     }
 
     private static void expired() {
+        CHECK.sentence("Promise 8", "IllegalStateException if it does not wait for one.");
         PakeDesk desk = new PakeDesk(SEED);
         desk.tick(3);
         int first = desk.server(USER, 1, 2);
@@ -241,5 +217,31 @@ public final class Promise08Test {
         CHECK.due(0, "no Y", () -> desk.message(second));
         CHECK.due(NOT_WAITING, "a wrong C after 20 ticks", () -> desk.receive(first, 0));
         CHECK.due(4, "state", () -> desk.state(first));
+    }
+
+    private static void expiredAtTheConfirmation() {
+        CHECK.sentence("Promise 8", "IllegalStateException if it does not wait for one.");
+        for (int way = 0; way < 2; way++) {
+            PakeDesk desk = new PakeDesk(SEED);
+            desk.register(USER, way, 5, 9);
+            int client = desk.client(USER, way, 5, 1);
+            int late = desk.client(USER, way, 5, 1);
+            int server = desk.server(USER, way, 2);
+            int lateServer = desk.server(USER, way, 2);
+            desk.pass(client, server, 0);
+            desk.pass(client, lateServer, 0);
+            desk.pass(server, client, 0);
+            desk.pass(server, late, 0);
+            desk.tick(19);
+            long c = desk.message(client);
+            CHECK.due(2, "C after 19 ticks", () -> desk.receive(server, c));
+            long d = desk.message(server);
+            CHECK.due(2, "D after 19 ticks", () -> desk.receive(client, d));
+            desk.tick(1);
+            CHECK.due(NOT_WAITING, "C after 20 ticks", () -> desk.receive(lateServer, c));
+            CHECK.due(NOT_WAITING, "D after 20 ticks", () -> desk.receive(late, d));
+            CHECK.due(4, "state of the server", () -> desk.state(lateServer));
+            CHECK.due(4, "state of the client", () -> desk.state(late));
+        }
     }
 }

@@ -6,11 +6,13 @@ public final class Promise10Test {
         step(7, 0, new long[] {1009659361L, 1464572934L, -1068675177149018850L});
         step(7, 1, new long[] {Sums.power(Sums.G, Sums.scalar(12345)), Sums.saltY(777, Sums.verifier(9, 1, 42)), 0});
         endedOnes();
+        noneYet();
         noSuchSession();
         CHECK.end();
     }
 
     private static void step(int seed, int way, long[] known) {
+        CHECK.sentence("Promise 10", "The message that a session had last;");
         PakeDesk desk = new PakeDesk(seed);
         desk.register(1, way, 42, 9);
         int client = desk.client(1, way, 42, 12345);
@@ -33,6 +35,7 @@ public final class Promise10Test {
     }
 
     private static void endedOnes() {
+        CHECK.sentence("Promise 10", "The message that a session had last;");
         PakeDesk desk = new PakeDesk(7);
         int client = desk.client(1, 1, 42, 12345);
         int deaf = desk.server(1, 1, 777);
@@ -47,12 +50,33 @@ public final class Promise10Test {
         CHECK.due(Sums.power(Sums.G, Sums.scalar(12345)), "of an expired client", () -> desk.message(client));
     }
 
+    private static void noneYet() {
+        CHECK.sentence("Promise 10", "0 if there is none");
+        for (int w = 0; w < 2; w++) {
+            int way = w;
+            PakeDesk desk = new PakeDesk(7);
+            int server = desk.server(1, way, 777);
+            CHECK.due(0, "of a server without X", () -> desk.message(server));
+            desk.tick(19);
+            CHECK.due(0, "of a server without X, later", () -> desk.message(server));
+            int deaf = desk.server(1, way, 777);
+            Check.answer(() -> desk.receive(deaf, 0));
+            CHECK.due(0, "of a server that failed at X", () -> desk.message(deaf));
+            desk.tick(1);
+            CHECK.due(0, "of a server that expired", () -> desk.message(server));
+        }
+    }
+
     private static void noSuchSession() {
+        CHECK.sentence("Promise 10", "0 if there is none, or no such session.");
         PakeDesk desk = new PakeDesk(7);
         CHECK.due(0, "message(0) of none", () -> desk.message(0));
         desk.client(1, 0, 1, 1);
         for (int session : new int[] {-1, 1, 39, 40, Integer.MIN_VALUE, Integer.MAX_VALUE}) {
             CHECK.due(0, "message " + session, () -> desk.message(session));
         }
+        Talk.fill(desk, 39);
+        CHECK.due(0, "message(40) of forty", () -> desk.message(40));
+        CHECK.due(Sums.wordX(38, Sums.word(38 % 8, 38)), "message(39) of forty", () -> desk.message(39));
     }
 }

@@ -12,6 +12,7 @@ public final class Promise12Test {
     }
 
     private static void wholeExchange(int way) {
+        CHECK.sentence("Promise 12", "The state of a session;");
         PakeDesk desk = new PakeDesk(2);
         desk.register(3, way, 5, 6);
         int client = desk.client(3, way, 5, 1);
@@ -33,6 +34,7 @@ public final class Promise12Test {
     }
 
     private static void expiry() {
+        CHECK.sentence("Promise 12", "The state of a session;");
         PakeDesk desk = new PakeDesk(2);
         int client = desk.client(3, 1, 5, 1);
         desk.tick(5);
@@ -51,6 +53,7 @@ public final class Promise12Test {
     }
 
     private static void theEndedDoNotExpire() {
+        CHECK.sentence("Promise 12", "The state of a session;");
         PakeDesk desk = new PakeDesk(2);
         desk.register(3, 1, 5, 6);
         int client = desk.client(3, 1, 5, 1);
@@ -67,11 +70,16 @@ public final class Promise12Test {
     }
 
     private static void noSuchSession() {
+        CHECK.sentence("Promise 12", "NONE if there is none.");
         PakeDesk desk = new PakeDesk(2);
         CHECK.due(-1, "state(0) of none", () -> desk.state(0));
         desk.client(1, 0, 1, 1);
         for (int session : new int[] {-1, 1, 39, 40, Integer.MIN_VALUE, Integer.MAX_VALUE}) {
             CHECK.due(-1, "state " + session, () -> desk.state(session));
         }
+        Talk.fill(desk, 39);
+        CHECK.due(-1, "state(40) of forty", () -> desk.state(40));
+        CHECK.due(0, "state(39) of forty", () -> desk.state(39));
+        CHECK.due(0, "state(0) of forty", () -> desk.state(0));
     }
 }

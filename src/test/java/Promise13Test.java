@@ -23,6 +23,7 @@ public final class Promise13Test {
     }
 
     private static void threeAtOnce() {
+        CHECK.sentence("Promise 13", "Whether a user is blocked.");
         for (int user : new int[] {0, 7}) {
             PakeDesk desk = new PakeDesk(4);
             expect(desk, user, false);
@@ -43,6 +44,7 @@ public final class Promise13Test {
     }
 
     private static void theThirdLatestCounts() {
+        CHECK.sentence("Promise 13", "Whether a user is blocked.");
         PakeDesk desk = new PakeDesk(4);
         fail(desk, 2);
         desk.tick(29);
@@ -62,6 +64,7 @@ public final class Promise13Test {
     }
 
     private static void moreThanThree() {
+        CHECK.sentence("Promise 13", "Whether a user is blocked.");
         PakeDesk desk = new PakeDesk(4);
         int early = Talk.serverAtConfirmation(desk, 2, 0);
         int later = Talk.serverAtConfirmation(desk, 2, 1);
@@ -80,6 +83,7 @@ public final class Promise13Test {
     }
 
     private static void onlyServersAtTheirConfirmation() {
+        CHECK.sentence("Promise 13", "Whether a user is blocked.");
         PakeDesk desk = new PakeDesk(4);
         for (int i = 0; i < 4; i++) {
             int server = desk.server(2, 0, 5);
@@ -98,6 +102,7 @@ public final class Promise13Test {
     }
 
     private static void finishedTakesAllAway() {
+        CHECK.sentence("Promise 13", "Whether a user is blocked.");
         for (int way = 0; way < 2; way++) {
             PakeDesk desk = new PakeDesk(4);
             desk.register(2, way, 5, 6);
@@ -123,6 +128,7 @@ public final class Promise13Test {
     }
 
     private static void recordsDoNotMatter() {
+        CHECK.sentence("Promise 13", "Whether a user is blocked.");
         PakeDesk desk = new PakeDesk(4);
         fail(desk, 2);
         desk.register(2, 0, 5, 6);
@@ -134,7 +140,10 @@ public final class Promise13Test {
     }
 
     private static void noSuchUser() {
+        CHECK.sentence("Promise 13", "Whether a user is blocked.");
         PakeDesk desk = new PakeDesk(4);
+        Talk.failures(desk, 0, 3);
+        Talk.failures(desk, 7, 3);
         for (int user : new int[] {-1, 8, Integer.MIN_VALUE, Integer.MAX_VALUE}) {
             expect(desk, user, false);
         }

@@ -6,6 +6,16 @@ final class Talk {
     private Talk() {
     }
 
+    /** A long whose scalar is the one told, 1 .. Q - 1. */
+    static long secretOf(long scalar) {
+        return 2 * (scalar - 1);
+    }
+
+    /** A client with the password told, or a server; the server has no use for the password. */
+    static int begin(PakeDesk desk, boolean client, int user, int way, long password, long secret) {
+        return client ? desk.client(user, way, password, secret) : desk.server(user, way, secret);
+    }
+
     /** All four messages between a client and a server, none of them altered. */
     static void whole(PakeDesk desk, int client, int server) {
         desk.pass(client, server, 0);
@@ -28,6 +38,12 @@ final class Talk {
     /** A new server of a user fails at its confirmation: one failure of the user. */
     static String failure(PakeDesk desk, int user) {
         return refuse(desk, serverAtConfirmation(desk, user, 1));
+    }
+
+    static void failures(PakeDesk desk, int user, int count) {
+        for (int i = 0; i < count; i++) {
+            failure(desk, user);
+        }
     }
 
     static void fill(PakeDesk desk, int count) {
