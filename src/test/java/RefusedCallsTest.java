@@ -47,7 +47,7 @@ public final class RefusedCallsTest {
         CHECK.end();
     }
 
-    /** Users and sessions of all kinds, at tick 20. */
+    /** Users and sessions of all kinds, at tick 23; the failures are a tick apart, so that one more is seen. */
     private static PakeDesk scene() {
         PakeDesk desk = new PakeDesk(SEED);
         desk.register(OF_WORD, 0, 10, 0);
@@ -56,7 +56,7 @@ public final class RefusedCallsTest {
         Talk.serverAtConfirmation(desk, OF_WORD, 0);
         desk.tick(20);
         Talk.whole(desk, desk.client(OF_WORD, 0, 10, 2), desk.server(OF_WORD, 0, 3));
-        Talk.failure(desk, NO_RECORD);
+        Talk.failure(desk, OF_WORD);
         desk.client(OF_SALT, 1, 20, 4);
         desk.server(OF_SALT, 1, 5);
         int client = desk.client(OF_WORD, 0, 10, 6);
@@ -65,7 +65,10 @@ public final class RefusedCallsTest {
         desk.pass(server, client, 0);
         Talk.serverAtConfirmation(desk, NEARLY_BLOCKED, 1);
         Talk.failures(desk, NEARLY_BLOCKED, 2);
-        Talk.failures(desk, BLOCKED, 3);
+        for (int i = 0; i < 3; i++) {
+            Talk.failure(desk, BLOCKED);
+            desk.tick(1);
+        }
         return desk;
     }
 
@@ -81,29 +84,36 @@ public final class RefusedCallsTest {
         CHECK.due(true, "blocked of one with three", () -> desk.blocked(BLOCKED));
     }
 
-    /** Steps that would show a hidden change: the exchanges go on, records are used, failures are counted. */
+    /** Steps that would show a hidden change: records are used, failures are counted, the exchanges go on. */
     private static List<String> whatFollows(PakeDesk desk) {
         List<String> answers = new ArrayList<>();
+        for (int user = NO_RECORD; user < BLOCKED; user++) {
+            for (int way = 0; way < 2; way++) {
+                addOneMoreFailure(desk, user, way, answers);
+            }
+        }
         int[][] passes = {{CLIENT_AT_Y, SERVER_AT_X}, {SERVER_AT_X, CLIENT_AT_Y}, {CLIENT_AT_Y, SERVER_AT_X},
             {SERVER_AT_X, CLIENT_AT_Y}, {CLIENT_AT_D, SERVER_AT_C}, {SERVER_AT_C, CLIENT_AT_D}};
         for (int[] pair : passes) {
             answers.add(Check.answer(() -> desk.pass(pair[0], pair[1], 0)));
         }
         answers.add(Talk.refuse(desk, LAST_CHANCE));
-        for (int u = 0; u < 5; u++) {
-            for (int w = 0; w < 2; w++) {
-                int user = u;
-                int way = w;
-                answers.add(Check.answer(() -> desk.message(Talk.serverAtConfirmation(desk, user, way))));
-            }
+        answers.addAll(Look.at(desk));
+        desk.tick(26);
+        for (int i = 0; i < 4; i++) {
+            answers.add(Check.answer(() -> desk.blocked(NEARLY_BLOCKED)));
+            answers.add(Check.answer(() -> desk.blocked(BLOCKED)));
+            desk.tick(1);
         }
         answers.addAll(Look.at(desk));
-        desk.tick(29);
-        answers.addAll(Look.at(desk));
-        desk.tick(1);
-        answers.add(Check.answer(() -> desk.blocked(NEARLY_BLOCKED)));
-        answers.add(Check.answer(() -> desk.server(BLOCKED, 0, 1)));
         return answers;
+    }
+
+    private static void addOneMoreFailure(PakeDesk desk, int user, int way, List<String> answers) {
+        String begun = Check.answer(() -> Talk.serverAtConfirmation(desk, user, way));
+        int server = desk.sessions() - 1;
+        answers.add(begun + ", " + desk.message(server) + ", " + Talk.refuse(desk, server)
+                + ", " + desk.blocked(user));
     }
 
     private static void expectNoChange(Object want, String what, Step step) {

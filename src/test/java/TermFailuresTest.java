@@ -10,6 +10,7 @@ public final class TermFailuresTest {
         notAtAClient();
         notWhenRefused();
         notWhenExpired();
+        notWhenOneBlockedIsRefused();
         threeAtLeast();
         lessThanThirtyTicks();
         theThirdLatest();
@@ -92,6 +93,25 @@ public final class TermFailuresTest {
         CHECK.same(Check.WRONG_STATE, "a wrong C after 20 ticks", Talk.refuse(desk, 1));
         CHECK.same(Check.WRONG_STATE, "a wrong C after 20 ticks", Talk.refuse(desk, 2));
         expect(desk, false, "after one failure and two that expired");
+    }
+
+    /** Failures at ticks 0, 1 and 2; were the refused servers failures too, the block would last longer. */
+    private static void notWhenOneBlockedIsRefused() {
+        CHECK.sentence("FAILURE and BLOCKED", "whenever a server of it fails at C.");
+        PakeDesk desk = new PakeDesk(SEED);
+        Talk.failure(desk, USER);
+        desk.tick(1);
+        Talk.failure(desk, USER);
+        desk.tick(1);
+        Talk.failure(desk, USER);
+        for (int i = 0; i < 3; i++) {
+            CHECK.due(Check.WRONG_STATE, "server()", () -> desk.server(USER, 0, 1));
+            CHECK.due(Check.WRONG_ARGUMENT, "server() of no way", () -> desk.server(USER, 2, 1));
+        }
+        desk.tick(27);
+        expect(desk, true, "at tick 29");
+        desk.tick(1);
+        expect(desk, false, "at tick 30");
     }
 
     private static void threeAtLeast() {
