@@ -1,3 +1,5 @@
+import java.util.List;
+
 /** Counts the answers that are not as due, prints each, and ends the program with 1 if there was one. */
 final class Check {
     static final String NO_ELEMENT = "throws.NoSuchElementException";
@@ -41,6 +43,23 @@ final class Check {
         if (!String.valueOf(want).equals(String.valueOf(got))) {
             complain(what + " answered " + got + ", due is " + want);
         }
+    }
+
+    /** Of many lines the first that differs is told, not all of them. */
+    void sameLines(List<String> want, String what, List<String> got) {
+        int line = 0;
+        while (line < want.size() && line < got.size() && want.get(line).equals(got.get(line))) {
+            line++;
+        }
+        same(lineOf(want, line), what + ", line " + line + ",", lineOf(got, line));
+    }
+
+    private static String lineOf(List<String> lines, int line) {
+        return line < lines.size() ? lines.get(line) : "no more";
+    }
+
+    boolean isClean() {
+        return wrong == 0;
     }
 
     void end() {

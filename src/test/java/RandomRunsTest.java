@@ -1,3 +1,6 @@
+import java.util.ArrayList;
+import java.util.Arrays;
+import java.util.List;
 import java.util.Map;
 import java.util.Random;
 import java.util.TreeMap;
@@ -11,13 +14,14 @@ public final class RandomRunsTest {
     private static final long[] ODD_LONGS = {0, 1, -1, 2, 4, Sums.P - 1, Sums.P, 1L << 32, Long.MIN_VALUE, Long.MAX_VALUE};
 
     private final Check check = new Check();
+    /** The calls of the run, with what the class answered. */
+    private final List<String> trail = new ArrayList<>();
     private final Map<String, Integer> kinds = new TreeMap<>();
     private final Random random = new Random(20261115);
     private PakeDesk desk;
     private Model model;
     private int run;
     private int busy;
-    private int calls;
 
     public static void main(String[] args) {
         RandomRunsTest test = new RandomRunsTest();
@@ -35,8 +39,9 @@ public final class RandomRunsTest {
         model = new Model(seed);
         // Some runs keep to few users, so that failures come together.
         busy = 1 + random.nextInt(8);
-        calls = 0;
-        while (calls <= CALLS) {
+        trail.clear();
+        trail.add("new PakeDesk(" + seed + ")");
+        while (trail.size() <= CALLS) {
             step();
         }
         lookAtAll();
@@ -86,10 +91,10 @@ public final class RandomRunsTest {
             long password = password();
             long salt = any();
             both("register", () -> desk.register(user, way, password, salt),
-                    () -> model.register(user, way, password, salt));
+                    () -> model.register(user, way, password, salt), user, way, password, salt);
         } else if (kind < 8) {
             int user = user();
-            both("forget", () -> desk.forget(user), () -> model.forget(user));
+            both("forget", () -> desk.forget(user), () -> model.forget(user), user);
         } else if (kind < 20) {
             exchange();
         } else if (kind < 24) {
@@ -97,12 +102,13 @@ public final class RandomRunsTest {
         } else if (kind < 36) {
             int session = session();
             long message = someMessage();
-            both("receive", () -> desk.receive(session, message), () -> model.receive(session, message));
+            both("receive", () -> desk.receive(session, message), () -> model.receive(session, message),
+                    session, message);
         } else if (kind < 76) {
             pass(session(), session(), random.nextInt(8) == 0 ? any() : 0);
         } else if (kind < 86) {
             int n = random.nextInt(12) == 0 ? random.nextInt(130) - 15 : random.nextInt(6);
-            both("tick", () -> desk.tick(n), () -> model.tick(n));
+            both("tick", () -> desk.tick(n), () -> model.tick(n), n);
         } else {
             look();
         }
@@ -111,21 +117,21 @@ public final class RandomRunsTest {
     private void look() {
         int user = user();
         int session = session();
-        both("way", () -> desk.way(user), () -> model.way(user));
-        both("salt", () -> desk.salt(user), () -> model.salt(user));
-        both("blocked", () -> desk.blocked(user), () -> model.blocked(user));
-        both("message", () -> desk.message(session), () -> model.message(session));
-        both("state", () -> desk.state(session), () -> model.state(session));
-        both("key", () -> desk.key(session), () -> model.key(session));
+        both("way", () -> desk.way(user), () -> model.way(user), user);
+        both("salt", () -> desk.salt(user), () -> model.salt(user), user);
+        both("blocked", () -> desk.blocked(user), () -> model.blocked(user), user);
+        both("message", () -> desk.message(session), () -> model.message(session), session);
+        both("state", () -> desk.state(session), () -> model.state(session), session);
+        both("key", () -> desk.key(session), () -> model.key(session), session);
         both("sessions", () -> desk.sessions(), () -> model.sessions());
     }
 
     private void lookAtAll() {
         for (int s = 0; s < model.sessions(); s++) {
             int session = s;
-            both("message", () -> desk.message(session), () -> model.message(session));
-            both("state", () -> desk.state(session), () -> model.state(session));
-            both("key", () -> desk.key(session), () -> model.key(session));
+            both("message", () -> desk.message(session), () -> model.message(session), session);
+            both("state", () -> desk.state(session), () -> model.state(session), session);
+            both("key", () -> desk.key(session), () -> model.key(session), session);
         }
     }
 
@@ -133,14 +139,16 @@ public final class RandomRunsTest {
         long secret = any();
         if (client) {
             both("client", () -> desk.client(user, way, password, secret),
-                    () -> model.client(user, way, password, secret));
+                    () -> model.client(user, way, password, secret), user, way, password, secret);
         } else {
-            both("server", () -> desk.server(user, way, secret), () -> model.server(user, way, secret));
+            both("server", () -> desk.server(user, way, secret), () -> model.server(user, way, secret),
+                    user, way, secret);
         }
     }
 
     private void pass(int from, int session, long bits) {
-        both("pass", () -> desk.pass(from, session, bits), () -> model.pass(from, session, bits));
+        both("pass", () -> desk.pass(from, session, bits), () -> model.pass(from, session, bits),
+                from, session, bits);
     }
 
     /** A client and a server of one user, and some of the messages between them. */
@@ -158,12 +166,23 @@ public final class RandomRunsTest {
         }
     }
 
-    private void both(String name, Check.Call ofDesk, Check.Call ofModel) {
+    private void both(String name, Check.Call ofDesk, Check.Call ofModel, Object... arguments) {
         String want = Check.answer(ofModel);
-        check.same(want, "run " + run + ": " + name, Check.answer(ofDesk));
-        calls++;
+        String got = Check.answer(ofDesk);
+        String call = name + Arrays.toString(arguments).replace('[', '(').replace(']', ')');
+        trail.add(call + " = " + got);
+        check.same(want, "run " + run + ": " + call, got);
+        if (!check.isClean()) {
+            tellRunAndEnd();
+        }
         boolean plain = want.startsWith("throws.") || want.length() < 3 || want.equals("true") || want.equals("false");
         kinds.merge(plain ? name + " " + want : name, 1, Integer::sum);
+    }
+
+    /** Behind a wrong answer the two go different ways: what follows would say nothing more. */
+    private void tellRunAndEnd() {
+        trail.forEach(System.out::println);
+        check.end();
     }
 
     /** A run that never comes to an answer shows nothing about it. */

@@ -120,8 +120,8 @@ public final class RefusedCallsTest {
         PakeDesk told = scene();
         PakeDesk spared = scene();
         CHECK.due(want, what, () -> step.on(told));
-        CHECK.same(Look.at(spared), "what is seen after " + what, Look.at(told));
-        CHECK.same(whatFollows(spared), "what follows " + what, whatFollows(told));
+        CHECK.sameLines(Look.at(spared), "what is seen after " + what, Look.at(told));
+        CHECK.sameLines(whatFollows(spared), "what follows " + what, whatFollows(told));
     }
 
     private static void register() {
@@ -174,7 +174,7 @@ public final class RefusedCallsTest {
         List<String> before = Look.at(desk);
         CHECK.due(Check.WRONG_STATE, "client", () -> desk.client(OF_WORD, 0, 10, 1));
         CHECK.due(Check.WRONG_STATE, "server", () -> desk.server(OF_WORD, 0, 1));
-        CHECK.same(before, "what is seen", Look.at(desk));
+        CHECK.sameLines(before, "what is seen", Look.at(desk));
         CHECK.due(2, "the C of the exchange that goes on", () -> desk.pass(CLIENT_AT_D, SERVER_AT_C, 0));
     }
 
@@ -271,6 +271,6 @@ public final class RefusedCallsTest {
             due.add(ofUser ? failed.replace("blocked false", "blocked true") : failed);
         }
         CHECK.due(want, "receive(" + session + ", " + message + ")", () -> told.receive(session, message));
-        CHECK.same(due, "what is seen after receive(" + session + ", " + message + ")", Look.at(told));
+        CHECK.sameLines(due, "what is seen after receive(" + session + ", " + message + ")", Look.at(told));
     }
 }
