@@ -6,7 +6,9 @@ import java.lang.reflect.Modifier;
 import java.nio.file.Files;
 import java.nio.file.Path;
 import java.util.ArrayList;
+import java.util.HashSet;
 import java.util.List;
+import java.util.Set;
 import java.util.regex.Pattern;
 
 /** Rules of LANGUAGE.md that a program can look at; run from the project's folder. */
@@ -20,12 +22,16 @@ public final class LanguageTest {
         "\\bMath\\.(?!floorMod\\b)", "\\bthrow\\s+(?!new )",
     };
 
+    private static final String THROW = "\\bthrow new (IllegalState|IllegalArgument|UnsupportedOperation|NoSuchElement)Exception"
+            + "\\(\"[^\"]*\"\\);";
+
     public static void main(String[] args) throws IOException {
         String text = Files.readString(Path.of("src/main/java/PakeDesk.java"));
         String code = text.replaceAll("(?s)/\\*.*?\\*/", " ").replaceAll("//[^\n]*", " ");
         for (String refused : REFUSED) {
             CHECK.same(false, "the code has " + refused, Pattern.compile(refused).matcher(code).find());
         }
+        CHECK.same(code.split("\\bthrow\\b", -1).length, "throws of written texts (rule 6)", code.split(THROW, -1).length);
         CHECK.same(1, "imports", code.split("\\bimport\\s", -1).length - 1);
         shapes();
         CHECK.end();
@@ -34,6 +40,10 @@ public final class LanguageTest {
     private static void shapes() {
         List<Class<?>> classes = new ArrayList<>(List.of(PakeDesk.class));
         classes.addAll(List.of(PakeDesk.class.getDeclaredClasses()));
+        Set<String> publics = new HashSet<>();
+        for (Method method : PakeDesk.class.getMethods()) {
+            publics.add(method.getName());
+        }
         CHECK.same(true, "at most twelve classes", classes.size() <= 12);
         for (Class<?> one : classes) {
             int fields = 0;
@@ -45,6 +55,8 @@ public final class LanguageTest {
             }
             CHECK.same(true, one + " has at most twenty fields", fields <= 20);
             for (Method method : one.getDeclaredMethods()) {
+                CHECK.same(true, method + " is public or bears no public name (rule 1)",
+                        Modifier.isPublic(method.getModifiers()) || !publics.contains(method.getName()));
                 CHECK.same(true, method + " has at most seven parameters", method.getParameterCount() <= 7);
             }
             for (Constructor<?> constructor : one.getDeclaredConstructors()) {
